@@ -1265,7 +1265,7 @@ public final class GoldByEar {
             int best = NONE;
             int least = count;
             for (int cell = 0; cell < ground.cells(); cell++) {
-                int greatest = greatestPartAt(cell);
+                int greatest = greatestPartAt(cell, least);
                 if (greatest < least) {
                     least = greatest;
                     best = cell;
@@ -1274,10 +1274,11 @@ public final class GoldByEar {
             return best;
         }
 
-        private int greatestPartAt(int cell) {
+        /** The greatest part that would sound alike there; no longer counted once it is as great as the bound. */
+        private int greatestPartAt(int cell, int bound) {
             Arrays.fill(alike, 0);
             int greatest = 0;
-            for (int from = 0; from < ground.cells() && from < MOST_CELLS; from++) {
+            for (int from = 0; from < ground.cells() && from < MOST_CELLS && greatest < bound; from++) {
                 if (sizes[from] != 0) {
                     way.lay(ground, now.wind, from, cell);
                     greatest = Math.max(greatest, countAlike(sizes[from]));
@@ -1289,8 +1290,8 @@ public final class GoldByEar {
         private int countAlike(int set) {
             int greatest = 0;
             for (int size = 1; size <= MOST_SIZE; size++) {
-                int loud = way.straight(size) + way.back(size);
-                if ((set >> size & 1) == 1 && loud >= 0 && loud < LOUD_ROOM) {
+                int loud = (set >> size & 1) == 1 ? way.straight(size) + way.back(size) : NONE;
+                if (loud >= 0 && loud < LOUD_ROOM) {
                     alike[loud]++;
                     greatest = Math.max(greatest, alike[loud]);
                 }

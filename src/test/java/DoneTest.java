@@ -49,14 +49,20 @@ public final class DoneTest {
         DUE.is("stand(0, 0)", x.stand(0, 0), 8);
         DUE.is("stand(0, 2)", x.stand(0, 2), 16);
         DUE.is("hearer(0, 0)", x.hearer(0, 0), 2);
+        x.noise(9);
+        DUE.is("stand(0, 0), 10 against 9", x.stand(0, 0), 8);
+        x.noise(10);
+        DUE.is("stand(0, 0), 10 against 10", x.stand(0, 0), 0);
+        x.noise(5);
+        x.stand(0, 2);
         DUE.is("stand(1, 2)", x.stand(1, 2), 16);
         DUE.is("both stand there", x.hearer(1, 0), x.hearer(0, 0));
         DUE.is("stand(2, 0)", x.stand(2, 0), GoldByEar.UNKNOWN);
         DUE.is("stand(-1, 0)", x.stand(-1, 0), GoldByEar.UNKNOWN);
         DUE.is("stand(0, 3)", x.stand(0, 3), GoldByEar.UNKNOWN);
         DUE.is("stand(0, -1)", x.stand(0, -1), GoldByEar.UNKNOWN);
-        DUE.is("told(14)", x.told(14), 3);
-        DUE.is("undo() of the third", x.undo(), 2);
+        DUE.is("told(14)", x.told(14), 9);
+        DUE.is("undo() of the latest", x.undo(), 8);
         DUE.is("hearer(1, 0) as ahead of it", x.hearer(1, 0), 1);
         DUE.is("hearer(0, 0) still", x.hearer(0, 0), 2);
     }

@@ -55,6 +55,8 @@ public final class HearingsTest {
         GoldByEar y = Ground.of("g1 1 0;");
         DUE.is("one cell, nine sizes", y.lies(0, NONE), 9);
         DUE.is("they are told apart there", y.lies(0, STAND), 0);
+        y.hear(0, 0, 90);
+        DUE.is("the greatest size", y.lies(0, 0), 9);
     }
 
     private static void liesByOneHearing() {
@@ -172,5 +174,10 @@ public final class HearingsTest {
         DUE.is("where it stands now", x.judge(), 1);
         x.tear();
         DUE.is("torn", x.judge(), NONE);
+        GoldByEar y = Ground.of("g1 1 0;l0 0 3 1;h0 0 0;n9;");
+        y.write(0, 8);
+        DUE.is("10 against 9 is heard", y.judge(), NONE);
+        y.noise(10);
+        DUE.is("10 against 10 is not", y.judge(), 0);
     }
 }

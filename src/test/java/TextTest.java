@@ -89,6 +89,8 @@ public final class TextTest {
         GoldByEar x = Ground.of(Ground.FIVE_BY_FOUR);
         DUE.is("an empty text", x.valley(), 0);
         DUE.is("an empty text: W", x.told(0), 0);
+        DUE.is("an empty text: H", x.told(1), 0);
+        DUE.is("an empty text: E", x.told(2), 0);
         DUE.is("an empty text: LUMPS", x.told(3), 0);
         DUE.is("an empty text: HEARERS", x.told(4), 0);
         DUE.is("an empty text: NOISE", x.told(7), 5);

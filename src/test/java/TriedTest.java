@@ -220,6 +220,10 @@ public final class TriedTest {
         DUE.is("hum(0, -1)", x.hum(0, -1), GoldByEar.UNKNOWN);
         GoldByEar y = Ground.of("g2 1 0;l0 0 0 2;l1 0 1 2;h0 0 0;h1 0 0;n5;");
         DUE.is("each takes as much as it costs", y.hum(0, 1), 15);
+        y.noise(9);
+        DUE.is("20 is more than 9 and 10", y.hum(0, 1), 15);
+        y.noise(10);
+        DUE.is("20 is not more than 10 and 10", y.hum(0, 1), 15);
         GoldByEar z = Ground.of("g3 1 0;l0 0 0 2;l2 0 1 2;h1 0 0;h1 0 0;h1 0 2;n5;");
         DUE.is("each takes two", z.hum(0, 1), 8);
         DUE.is("from the deaf there is nothing to take", z.hum(0, 2), 4);
