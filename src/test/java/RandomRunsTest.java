@@ -86,7 +86,8 @@ public final class RandomRunsTest {
         StringBuilder s = new StringBuilder(blanks(1));
         s.append('g').append(w).append(' ').append(h).append(' ').append(random.nextInt(2)).append(';');
         boolean[] taken = new boolean[36];
-        int lumps = random.nextInt(8);
+        boolean chord = random.nextInt(3) == 0;
+        int lumps = chord ? 7 : random.nextInt(8);
         int kinds = 1 + random.nextInt(12);
         for (int l = 0; l < lumps; l++) {
             int x = random.nextInt(w);
@@ -94,7 +95,7 @@ public final class RandomRunsTest {
             if (!taken[y * 6 + x] || random.nextInt(30) == 0) {
                 taken[y * 6 + x] = true;
                 s.append(blanks(1)).append('l').append(x).append(' ').append(y).append(' ');
-                s.append(random.nextInt(kinds)).append(' ').append(1 + random.nextInt(9)).append(';');
+                s.append(chord ? 11 - l : random.nextInt(kinds)).append(' ').append(1 + random.nextInt(9)).append(';');
             }
         }
         int hearers = random.nextInt(5);

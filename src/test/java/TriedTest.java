@@ -81,6 +81,13 @@ public final class TriedTest {
         y.walk(14);
         y.dig();
         DUE.are("four are left", posts(y), 0, 11, 24, 34);
+        // Seven pitches in two heaps: 10 on the cell, 5 beside it, 3 two off.
+        GoldByEar w = Ground.of("g6 6 0;l0 0 11 1;l1 0 0 1;l0 1 10 1;l5 5 5 1;l4 5 3 1;l5 4 7 1;l5 3 1 1;n3;");
+        DUE.are("seven pitches, three places: pitch 1 from above, the others from the corners", posts(w), 0, 17, 35);
+        w.noise(2);
+        DUE.are("seven pitches, two places", posts(w), 0, 28);
+        w.noise(9);
+        DUE.is("seven pitches, each on its cell alone", w.posts(NONE), NONE);
         GoldByEar z = Ground.of("g3 1 0;l0 0 0 2;l1 0 1 2;l2 0 2 2;n9;");
         DUE.are("one in the middle hears three", posts(z), 1);
         z.noise(10);
