@@ -33,10 +33,14 @@ public final class EdgesTest {
         liesOfNoMatterWhatLumps();
         liesBeyond();
         standPartsNone();
+        standWithinTheCells();
+        standByTheGreatestSize();
+        liesInALesserValley();
         postsNoneToFour();
         postsBeyond();
         orderNoHours();
         orderJustInTime();
+        orderOfLikeGold();
         orderBeyond();
         claimsNotLouder();
         claimsOfNone();
@@ -345,6 +349,41 @@ public final class EdgesTest {
         DUE.is("nine SIZES are parted on the only CELL", y.lies(0, STAND), 0);
     }
 
+    // No CELL parts all three; the first place behind the CELLS would, but there is none.
+    private static void standWithinTheCells() {
+        GoldByEar x = Ground.of("g2 3 1;");
+        x.hear(3, 0, 6);
+        DUE.is("SIZE 1, one off, with its ECHO", x.lies(0, NONE), 3);
+        DUE.is("above", x.lies(0, 0), 11);
+        DUE.is("to the left", x.lies(0, 1), 21);
+        DUE.is("below", x.lies(0, 2), 51);
+        DUE.is("two of three are alike at each other CELL: the least", x.lies(0, STAND), 0);
+    }
+
+    private static void standByTheGreatestSize() {
+        GoldByEar x = Ground.of("g2 1 0;");
+        x.blow(3);
+        x.hear(0, 0, 90);
+        DUE.is("SIZE 9 on it, SIZE 9 to the right twice 45", x.lies(0, NONE), 2);
+        DUE.is("on it", x.lies(0, 0), 9);
+        DUE.is("to the right", x.lies(0, 1), 19);
+        DUE.is("alike at CELL 0, 45 and 90 at CELL 1", x.lies(0, STAND), 1);
+    }
+
+    // What fitted in a greater valley must not be seen in the next one.
+    private static void liesInALesserValley() {
+        GoldByEar x = Ground.of("g6 6 0;");
+        DUE.is("all fits", x.lies(0, NONE), 324);
+        Ground.tell(x, "g2 1 0;");
+        x.hear(0, 0, 10);
+        DUE.is("two fit", x.lies(0, NONE), 2);
+        DUE.is("the second", x.lies(0, 1), 12);
+        for (int i = 2; i < 40; i++) {
+            DUE.is("no " + i + "-th", x.lies(0, i), NONE);
+        }
+        DUE.is("parted at CELL 1", x.lies(0, STAND), 1);
+    }
+
     // 'POSTS: the fewest CELLS (0 .. 4)'
     private static void postsNoneToFour() {
         String[] lumps = {"l0 0 0 1;", "l5 0 1 1;", "l0 5 2 1;", "l5 5 3 1;", "l3 3 4 1;"};
@@ -381,7 +420,9 @@ public final class EdgesTest {
     private static void orderNoHours() {
         GoldByEar x = Ground.of(ONE);
         DUE.is("in no HOURS, on a LUMP", x.order(0, NONE), 0);
-        DUE.is("in no HOURS, no first", x.order(0, 0), NONE);
+        for (int i = 0; i < 8; i++) {
+            DUE.is("in no HOURS, no " + i + "-th", x.order(0, i), NONE);
+        }
         DUE.is("in one HOUR, on a LUMP", x.order(1, NONE), 1);
         DUE.is("in one HOUR, the first", x.order(1, 0), 0);
         DUE.is("in 60 HOURS", x.order(60, NONE), 1);
@@ -403,6 +444,19 @@ public final class EdgesTest {
         DUE.is("in 60 HOURS the way of fewest", x.order(60, 0), 1);
         x.drift(99);
         DUE.is("from now: HOURS that were do not count", x.order(12, NONE), 10);
+    }
+
+    // 'of like ones the one of fewest HOURS, then the first'
+    private static void orderOfLikeGold() {
+        GoldByEar x = Ground.of("g6 1 0;l2 0 0 3;l4 0 0 3;l5 0 0 3;l0 0 0 3;");
+        x.walk(3);
+        DUE.is("two in 5 HOURS", x.order(5, NONE), 6);
+        DUE.is("1, 2 in 4 HOURS ahead of 0, 1 and 0, 3 in 5", x.order(5, 0), 1);
+        DUE.is("then 2", x.order(5, 1), 2);
+        GoldByEar y = Ground.of("g6 1 0;l2 0 0 3;l4 0 0 3;l5 0 0 3;l1 0 0 2;");
+        y.walk(3);
+        DUE.is("3 and 3 in 4 HOURS", y.order(4, NONE), 6);
+        DUE.is("ahead of 3 and 2 in as many", y.order(4, 0), 1);
     }
 
     // 'else the i-th; NONE: not so many'
@@ -439,6 +493,9 @@ public final class EdgesTest {
         GoldByEar x = Ground.of("g6 6 0;");
         DUE.is("no LUMPS: SIZE", x.claims(0), 0);
         DUE.is("no LUMPS: the SET", x.claims(1), 0);
+        GoldByEar z = Ground.of(ONE);
+        DUE.is("one of SIZE 1: SIZE", z.claims(0), 1);
+        DUE.is("one of SIZE 1: the SET", z.claims(1), 1);
         GoldByEar y = Ground.of("g6 6 0;n99;l0 0 0 9;l1 0 0 9;l2 0 0 9;l3 0 0 9;l4 0 0 9;l5 0 0 9;l0 1 0 9;");
         DUE.is("all seven: SIZE", y.claims(0), 63);
         DUE.is("all seven: the SET", y.claims(1), 127);
